@@ -86,7 +86,7 @@ public final class WharfPapers {
         if (lots.count >= MOST_LOTS) {
             return FULL;
         }
-        return lots.add(sort, n, weight, house, floor, now);
+        return lots.add(sort, n, weight, floor, now);
     }
 
     /** Promise 4. */
@@ -612,11 +612,11 @@ public final class WharfPapers {
         return all;
     }
 
+    /** No call asks for the HOUSE of a LOT, so that it is not kept. */
     private static final class Lots {
         final int[] sort = new int[MOST_LOTS];
         final int[] casks = new int[MOST_LOTS];
         final int[] weight = new int[MOST_LOTS];
-        final int[] house = new int[MOST_LOTS];
         final int[] floor = new int[MOST_LOTS];
         final int[] since = new int[MOST_LOTS];
         int count;
@@ -625,12 +625,11 @@ public final class WharfPapers {
             return l >= 0 && l < count;
         }
 
-        int add(int itsSort, int n, int itsWeight, int itsHouse, int itsFloor, int day) {
+        int add(int itsSort, int n, int itsWeight, int itsFloor, int day) {
             int l = count;
             sort[l] = itsSort;
             casks[l] = n;
             weight[l] = itsWeight;
-            house[l] = itsHouse;
             floor[l] = itsFloor;
             since[l] = day;
             count++;

@@ -186,6 +186,12 @@ public final class TermsTest {
         bad("strike;", 1, 6);
         bad("strike x;", 1, 7);
         bad("strikes 1;", 1, 0);
+        bad("letz rent 5;", 1, 0);
+        bad("let arent 5;", 1, 4);
+        bad("let rent`5;", 1, 8);
+        bad("let rent{5;", 1, 8);
+        bad("let rent 5/", 1, 10);
+        bad("let rent 5:", 1, 10);
     }
 
     private static void faultsOfNumbers() {
