@@ -483,12 +483,12 @@ public final class WharfPapers {
         }
         dues.settle();
         switch (what) {
-            case 0: return dues.failed[house] ? 1 : 0;
+            case 0: return dues.isShort(house) ? 1 : 0;
             case 1: return dues.has[house];
             case 2: return dues.givenBy(house);
             case 3: return dues.owes[house];
             case 4: return dues.rounds;
-            default: return dues.failedCount();
+            default: return dues.shortCount();
         }
     }
 
@@ -1423,7 +1423,6 @@ public final class WharfPapers {
         final int[] coin = new int[HOUSES];
         final int[] owes = new int[HOUSES];
         final int[] has = new int[HOUSES];
-        final boolean[] failed = new boolean[HOUSES];
         int rounds;
 
         int add(int a, int b, int v) {
@@ -1447,7 +1446,6 @@ public final class WharfPapers {
         private void begin() {
             for (int h = 0; h < HOUSES; h++) {
                 owes[h] = 0;
-                failed[h] = false;
             }
             for (int d = 0; d < count; d++) {
                 given[d] = sum[d];
@@ -1459,9 +1457,6 @@ public final class WharfPapers {
         /** All give at once: has[] is filled anew only behind the whole round. */
         private boolean isRoundChanging() {
             boolean isChanged = false;
-            for (int h = 0; h < HOUSES; h++) {
-                failed[h] = has[h] < owes[h];
-            }
             for (int d = 0; d < count; d++) {
                 int gives = partOf(sum[d], debtor[d]);
                 isChanged = isChanged || gives != given[d];
@@ -1472,10 +1467,15 @@ public final class WharfPapers {
         }
 
         private int partOf(int v, int house) {
-            if (!failed[house] || owes[house] <= 0) {
+            if (!isShort(house) || owes[house] <= 0) {
                 return v;
             }
             return (int) ((long) v * has[house] / owes[house]);
+        }
+
+        /** Whether it FAILS by what it has now: a ROUND may leave it short that gave all in it. */
+        boolean isShort(int house) {
+            return has[house] < owes[house];
         }
 
         private void receive() {
@@ -1495,10 +1495,10 @@ public final class WharfPapers {
             return all;
         }
 
-        int failedCount() {
+        int shortCount() {
             int all = 0;
             for (int h = 0; h < HOUSES; h++) {
-                all += failed[h] ? 1 : 0;
+                all += isShort(h) ? 1 : 0;
             }
             return all;
         }

@@ -535,9 +535,9 @@ final class Model {
             rounds++;
         }
         int failing = 0;
-        for (int h = 0; h < 8; h++) failing += given(gives, h) < owes(h) ? 1 : 0;
+        for (int h = 0; h < 8; h++) failing += has(gives, h) < owes(h) ? 1 : 0;
         if (house == NONE) return what == 4 ? rounds : failing;
-        long[] answers = {given(gives, house) < owes(house) ? 1 : 0, has(gives, house), given(gives, house), owes(house)};
+        long[] answers = {has(gives, house) < owes(house) ? 1 : 0, has(gives, house), given(gives, house), owes(house)};
         return (int) answers[what];
     }
 

@@ -1,6 +1,6 @@
 /** All promises: many runs of calls, each answered by the program and by the model. */
 public final class ModelTest {
-    private static final int RUNS = 4000, CALLS = 512;
+    private static final int RUNS = 4000, CALLS = 512, RINGS = 300;
 
     private long seed;
     private WharfPapers x;
@@ -17,7 +17,47 @@ public final class ModelTest {
         for (int r = 0; r < RUNS && Check.wrongs() == 0; r++) {
             new ModelTest().oneRun(r);
         }
+        for (int r = 0; r < RINGS && Check.wrongs() == 0; r++) {
+            new ModelTest().oneRing(r);
+        }
         Check.end();
+    }
+
+    /** HOUSES in a ring that lose a little in each ROUND, so that 50 do not end it; some owe what trickles out. */
+    private void oneRing(int r) {
+        seed = r * 104729L + 5;
+        x = new WharfPapers();
+        m = new Model();
+        int ring = 2 + pick(4);
+        for (int h = 0; h < ring; h++) {
+            tellDue(h, (h + 1) % ring, 9999 - pick(3));
+        }
+        int leaf = ring + pick(8 - ring);
+        tellDue(pick(ring), leaf, 1 + pick(1500));
+        if (pick(2) == 0) {
+            tellDue(0, ring - 1, 1 + pick(60));
+        }
+        askFails();
+        int owed = m.fails(leaf, 1) + pick(3);
+        tellDue(leaf, leaf == 7 ? ring - 1 : 7, Math.max(1, Math.min(9999, owed)));
+        askFails();
+        if (Check.wrongs() > 0) {
+            System.out.println("ring " + r + ":\n" + run);
+        }
+    }
+
+    private void tellDue(int a, int b, int v) {
+        same("due(" + a + ", " + b + ", " + v + ")", x.due(a, b, v), m.due(a, b, v));
+    }
+
+    private void askFails() {
+        for (int house = 0; house < 8; house++) {
+            for (int what = 0; what < 4; what++) {
+                same("fails(" + house + ", " + what + ")", x.fails(house, what), m.fails(house, what));
+            }
+        }
+        same("fails(-1, 4)", x.fails(-1, 4), m.fails(-1, 4));
+        same("fails(-1, 5)", x.fails(-1, 5), m.fails(-1, 5));
     }
 
     private void oneRun(int r) {

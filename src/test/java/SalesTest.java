@@ -12,6 +12,7 @@ public final class SalesTest {
         fails();
         failsByParts();
         failsSlowly();
+        failsInTheLastRound();
         Check.end();
     }
 
@@ -201,5 +202,27 @@ public final class SalesTest {
         Check.due("31 has what it is given behind all ROUNDS", x.fails(0, 1), 9973);
         Check.due("31 has what it is given behind all ROUNDS", x.fails(1, 1), 9974);
         Check.due("31 is given nothing", x.fails(2, 1), 0);
+    }
+
+    /** The 50th ROUND is the first behind which HOUSE 6 has less than 289; in it, it still gave all. */
+    private static void failsInTheLastRound() {
+        WharfPapers x = new WharfPapers();
+        x.due(5, 2, 9999);
+        x.due(2, 0, 9999);
+        x.due(0, 1, 9999);
+        x.due(1, 5, 9999);
+        x.due(5, 1, 50);
+        x.due(2, 6, 1000);
+        isHouse(x, 6, 0, 288, 0, 0);
+        Check.due("31 50 ROUNDS", x.fails(NONE, 4), 50);
+        Check.due("31 the four of the ring FAIL", x.fails(NONE, 5), 4);
+        x.due(6, 3, 289);
+        isHouse(x, 6, 1, 288, 289, 289);
+        isHouse(x, 3, 0, 289, 0, 0);
+        Check.due("31 50 ROUNDS", x.fails(NONE, 4), 50);
+        Check.due("31 HOUSE 6 FAILS too", x.fails(NONE, 5), 5);
+        x.coin(6, 1);
+        isHouse(x, 6, 0, 289, 289, 289);
+        Check.due("31 HOUSE 6 FAILS no more", x.fails(NONE, 5), 4);
     }
 }
