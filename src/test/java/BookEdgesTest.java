@@ -24,14 +24,6 @@ public final class BookEdgesTest {
         Check.end();
     }
 
-    private static WharfPapers withLots(int... casks) {
-        WharfPapers x = new WharfPapers();
-        for (int n : casks) {
-            x.lot(0, n, 10, 0, 0);
-        }
-        return x;
-    }
-
     private static void nothingAtFirst() {
         WharfPapers x = new WharfPapers();
         for (int what = 0; what < 12; what++) {
@@ -122,7 +114,7 @@ public final class BookEdgesTest {
     }
 
     private static void movesGoToAnotherFloor() {
-        WharfPapers x = withLots(200, 200);
+        WharfPapers x = Check.withLots(200, 200);
         Check.due("5 to where it is", x.move(0, 0), NOT);
         Check.due("5 ROOM is not asked", x.move(0, 5), 0);
         Check.due("5 nor with another one there", x.move(1, 5), 0);
@@ -132,7 +124,7 @@ public final class BookEdgesTest {
     }
 
     private static void warrantsAreNamedByLines() {
-        WharfPapers x = withLots(10);
+        WharfPapers x = Check.withLots(10);
         x.line(8, 0, 0, 0, 0, 1);
         Check.due("6 the number of its LINE", x.line(0, 0, 0, 3, 0, 5), 1);
         x.line(8, 0, 0, 0, 0, 1);
@@ -154,7 +146,7 @@ public final class BookEdgesTest {
     }
 
     private static void linesAreOfAnyDayUpToNow() {
-        WharfPapers x = withLots(10);
+        WharfPapers x = Check.withLots(10);
         x.go(9);
         Check.due("6 done on DAY 0", x.line(0, 0, 0, 1, 0, 1), 0);
         Check.due("6 done at NOW", x.line(0, 9, 0, 1, 0, 1), 1);
@@ -173,7 +165,7 @@ public final class BookEdgesTest {
         int[][] has = {{1, 0, 1}, {1, 1, 1}, {0, 0, 1}, {1, 0, 1}, {0, 0, 0}, {1, 0, 0}, {0, 0, 0}, {0, 0, 1}, {0, 0, 1}, {1, 0, 0}, {0, 0, 0}};
         for (int kind = 0; kind <= 10; kind++) {
             for (int v = 0; v <= 1; v++) {
-                WharfPapers x = withLots(10);
+                WharfPapers x = Check.withLots(10);
                 x.line(0, 0, 0, 1, 0, 5);
                 int i = x.line(kind, 0, 0, v * 7, v * 6, kind == 1 ? v : 1 + v);
                 Check.due("7 KIND", x.told(i, 0), kind);
@@ -186,7 +178,7 @@ public final class BookEdgesTest {
     }
 
     private static void linesAreKnownFromTheirDayOn() {
-        WharfPapers x = withLots(10);
+        WharfPapers x = Check.withLots(10);
         x.go(4);
         x.line(0, 1, 0, 2, 0, 5);
         x.go(4);
@@ -201,7 +193,7 @@ public final class BookEdgesTest {
     }
 
     private static void voidsAreKnownFromTheirDayOn() {
-        WharfPapers x = withLots(10);
+        WharfPapers x = Check.withLots(10);
         x.line(0, 0, 0, 2, 0, 5);
         x.go(4);
         x.line(10, 0, 0, 0, 0, 0);
@@ -219,7 +211,7 @@ public final class BookEdgesTest {
 
     /** Each VOID in a row makes the one ahead of it nothing, on one same DAY. */
     private static void voidOfVoidOfVoid() {
-        WharfPapers x = withLots(10);
+        WharfPapers x = Check.withLots(10);
         x.line(0, 0, 0, 2, 0, 5);
         for (int last = 1; last <= 6; last++) {
             x.line(10, 0, last - 1, 0, 0, 0);
@@ -233,7 +225,7 @@ public final class BookEdgesTest {
     }
 
     private static void twoVoidsOfOneLine() {
-        WharfPapers x = withLots(10);
+        WharfPapers x = Check.withLots(10);
         x.line(0, 0, 0, 2, 0, 5);
         x.line(10, 0, 0, 0, 0, 0);
         x.line(10, 0, 0, 0, 0, 0);
@@ -253,7 +245,7 @@ public final class BookEdgesTest {
     }
 
     private static void bookOfOneDayGoesByNumbers() {
-        WharfPapers x = withLots(10);
+        WharfPapers x = Check.withLots(10);
         x.go(3);
         int[] days = {2, 1, 2, 1, 3, 0, 3, 0};
         for (int day : days) {
@@ -269,7 +261,7 @@ public final class BookEdgesTest {
     }
 
     private static void bookOf120() {
-        WharfPapers x = withLots(1);
+        WharfPapers x = Check.withLots(1);
         x.go(119);
         for (int i = 0; i < 120; i++) {
             Check.due("6 LINE " + i, x.line(8, 119 - i, 0, 0, 0, 1), i);
@@ -286,7 +278,7 @@ public final class BookEdgesTest {
     }
 
     private static void vainUntilVoid() {
-        WharfPapers x = withLots(10);
+        WharfPapers x = Check.withLots(10);
         x.line(8, 0, 0, 0, 0, 11);
         Check.due("7 VAIN", x.told(0, 8), 1);
         Check.due("9 VAIN", x.count(4), 1);
@@ -301,7 +293,7 @@ public final class BookEdgesTest {
     }
 
     private static void countsOfPapersWithCasks() {
-        WharfPapers x = withLots(10, 10);
+        WharfPapers x = Check.withLots(10, 10);
         x.line(0, 0, 0, 1, 0, 1);
         Check.due("9 one with one cask", x.count(5), 1);
         Check.due("15 one with one cask", x.goods(0, 0, 0, 5), 1);
@@ -316,7 +308,7 @@ public final class BookEdgesTest {
     }
 
     private static void countsOfDoubleIssues() {
-        WharfPapers x = withLots(10, 10);
+        WharfPapers x = Check.withLots(10, 10);
         x.line(0, 0, 0, 1, 0, 10);
         Check.due("9 as many as are THERE", x.count(6), 0);
         x.line(0, 0, 0, 1, 0, 1);
@@ -331,7 +323,7 @@ public final class BookEdgesTest {
         Check.due("9 without the first, the second is not", x.count(6), 1);
         x.line(10, 0, 2, 0, 0, 0);
         Check.due("9 a VOID one is not", x.count(6), 0);
-        WharfPapers y = withLots(10);
+        WharfPapers y = Check.withLots(10);
         y.line(0, 0, 0, 1, 0, 10);
         y.line(7, 0, 0, 0, 0, 9);
         y.line(0, 0, 0, 1, 0, 1);

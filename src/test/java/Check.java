@@ -1,6 +1,6 @@
 import java.nio.charset.StandardCharsets;
 
-/** What all tests share: counting answers that are not as due, and feeding texts. */
+/** What all tests share: counting answers that are not as due, feeding texts, and objects to begin with. */
 final class Check {
     private static int asked = 0;
     private static int wrong = 0;
@@ -44,6 +44,24 @@ final class Check {
     static int term(WharfPapers x, String text, int day) {
         feed(x, text);
         return x.term(day);
+    }
+
+    /** LOTS of so many casks, all of SORT 0 and on FLOOR 0. */
+    static WharfPapers withLots(int... casks) {
+        WharfPapers x = new WharfPapers();
+        for (int n : casks) {
+            x.lot(0, n, 10, 0, 0);
+        }
+        return x;
+    }
+
+    /** A new one, but NOW is that DAY. */
+    static WharfPapers onDay(int day) {
+        WharfPapers x = new WharfPapers();
+        for (int left = day; left > 0; left -= Math.min(left, 999)) {
+            x.go(Math.min(left, 999));
+        }
+        return x;
     }
 
     static void end() {

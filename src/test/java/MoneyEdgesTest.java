@@ -25,16 +25,8 @@ public final class MoneyEdgesTest {
         Check.end();
     }
 
-    private static WharfPapers onDay(int day) {
-        WharfPapers x = new WharfPapers();
-        for (int left = day; left > 0; left -= Math.min(left, 999)) {
-            x.go(Math.min(left, 999));
-        }
-        return x;
-    }
-
     private static void rentByWeeksBegun() {
-        WharfPapers x = onDay(3);
+        WharfPapers x = Check.onDay(3);
         x.lot(0, 7, 10, 0, 0);
         int[][] due = {{0, 0}, {2, 0}, {3, 14}, {4, 14}, {9, 14}, {10, 28}, {16, 28}, {17, 42}, {23, 42}, {24, 56}};
         for (int[] row : due) {
@@ -43,7 +35,7 @@ public final class MoneyEdgesTest {
     }
 
     private static void rentOfTheFirstAndLastDays() {
-        WharfPapers x = onDay(0);
+        WharfPapers x = Check.onDay(0);
         x.lot(0, 200, 10, 0, 0);
         Check.due("20 the first DAY", x.rent(0, 0), 400);
         Check.due("20 286 WEEKS are begun", x.rent(0, 2000), 200 * 2 * 286);
@@ -53,14 +45,14 @@ public final class MoneyEdgesTest {
         Check.due("20 the most", x.rent(0, 2000), 200 * 99 * 286);
         Check.term(x, "let rent 0;", 0);
         Check.due("20 the least", x.rent(0, 2000), 0);
-        WharfPapers y = onDay(2000);
+        WharfPapers y = Check.onDay(2000);
         y.lot(0, 1, 10, 0, 0);
         Check.due("20 told on the last DAY", y.rent(0, 2000), 2);
         Check.due("20 ahead of it", y.rent(0, 1999), 0);
     }
 
     private static void rentOfCasksThere() {
-        WharfPapers x = onDay(0);
+        WharfPapers x = Check.onDay(0);
         x.lot(0, 10, 10, 0, 0);
         x.go(30);
         x.line(0, 0, 0, 1, 0, 4);
@@ -77,7 +69,7 @@ public final class MoneyEdgesTest {
     }
 
     private static void rentByTermsOfTheDayAsked() {
-        WharfPapers x = onDay(0);
+        WharfPapers x = Check.onDay(0);
         x.lot(0, 1, 10, 0, 0);
         Check.term(x, "let rent 10;", 10);
         Check.term(x, "let rent 20;", 20);
@@ -88,14 +80,14 @@ public final class MoneyEdgesTest {
     }
 
     private static void weightByWholeWeeks() {
-        WharfPapers x = onDay(20);
+        WharfPapers x = Check.onDay(20);
         x.lot(2, 1, 1000 - 1, 0, 0);
         Check.term(x, "dry 2 by 10;dry 1 by 500;", 0);
         int[][] due = {{0, 999}, {12, 999}, {13, 999}, {19, 999}, {20, 999}, {26, 999}, {27, 989}, {33, 989}, {34, 979}};
         for (int[] row : due) {
             Check.due("21 since 20, on " + row[0], x.weight(0, row[0]), row[1]);
         }
-        WharfPapers y = onDay(0);
+        WharfPapers y = Check.onDay(0);
         for (int s = 0; s < 4; s++) {
             y.lot(s, 1, 100, 0, 0);
         }
@@ -107,7 +99,7 @@ public final class MoneyEdgesTest {
     }
 
     private static void weightNoneAtLeast() {
-        WharfPapers x = onDay(0);
+        WharfPapers x = Check.onDay(0);
         x.lot(0, 1, 10, 0, 0);
         x.lot(1, 1, 999, 0, 0);
         x.lot(1, 1, 1, 0, 0);
@@ -127,7 +119,7 @@ public final class MoneyEdgesTest {
     }
 
     private static void weightByTermsOfTheDayAsked() {
-        WharfPapers x = onDay(0);
+        WharfPapers x = Check.onDay(0);
         x.lot(0, 1, 100, 0, 0);
         Check.term(x, "dry 0 by 10;", 14);
         Check.term(x, "dry 0 by 100;", 20);
@@ -138,7 +130,7 @@ public final class MoneyEdgesTest {
     }
 
     private static void weighingsAreForty() {
-        WharfPapers x = onDay(0);
+        WharfPapers x = Check.onDay(0);
         x.lot(0, 1, 10, 0, 0);
         for (int i = 0; i < 40; i++) {
             Check.due("23 not yet", x.loss(i, 0), UNKNOWN);
@@ -149,7 +141,7 @@ public final class MoneyEdgesTest {
         Check.due("9 weighings", x.count(11), 40);
         Check.due("23 no more", x.loss(40, 0), UNKNOWN);
         Check.due("23 the first", x.loss(0, 0), 2000);
-        WharfPapers y = onDay(0);
+        WharfPapers y = Check.onDay(0);
         for (int l = 0; l < 12; l++) {
             y.lot(0, 1, 10 + l, 0, 0);
             Check.due("22 of LOT " + l, y.weigh(l, 1, 3), l + 1);
@@ -166,7 +158,7 @@ public final class MoneyEdgesTest {
     }
 
     private static void lossNoneAtLeast() {
-        WharfPapers x = onDay(0);
+        WharfPapers x = Check.onDay(0);
         x.lot(0, 1, 999, 0, 0);
         Check.term(x, "let bear 0;let beyond 1;", 0);
         int[] weights = {199999, 199801, 199800, 199799, 0};
@@ -189,7 +181,7 @@ public final class MoneyEdgesTest {
             {1, 2, 999, 0}, {1, 2, 998, 2}, {10, 1, 495, 0}, {10, 1, 494, 6}, {1, 1, 500, 0}, {1, 1, 499, 1}, {999, 200, 100, 0}, {999, 200, 99, 99901}};
         for (int[] row : rows) {
             for (int beyond = 0; beyond <= 1; beyond++) {
-                WharfPapers x = onDay(0);
+                WharfPapers x = Check.onDay(0);
                 x.lot(0, 1, 500, 0, 0);
                 Check.term(x, "let bear " + row[0] + ";let beyond " + beyond + ";", 0);
                 x.weigh(0, row[1], row[2]);
@@ -197,7 +189,7 @@ public final class MoneyEdgesTest {
                 isLoss(what, x, 0, 500 * row[1] - row[2], row[3], row[3] == 0 ? NONE : beyond);
             }
         }
-        WharfPapers x = onDay(0);
+        WharfPapers x = Check.onDay(0);
         x.lot(0, 1, 999, 0, 0);
         x.weigh(0, 1, 990);
         isLoss("9 of 999 is less than 10 in a thousand", x, 0, 9, 0, NONE);
@@ -206,7 +198,7 @@ public final class MoneyEdgesTest {
     }
 
     private static void lossOfTheDayOfWeighing() {
-        WharfPapers x = onDay(6);
+        WharfPapers x = Check.onDay(6);
         x.lot(0, 1, 500, 0, 0);
         Check.term(x, "dry 0 by 20;let bear 0;let beyond 1;", 13);
         Check.term(x, "dry 0 by 40;let bear 999;let beyond 0;", 14);
@@ -226,7 +218,7 @@ public final class MoneyEdgesTest {
 
     /** Casks have a WEIGHT each, cut, before they are taken together. */
     private static void lossOfCasksThatAreCut() {
-        WharfPapers x = onDay(0);
+        WharfPapers x = Check.onDay(0);
         x.lot(0, 1, 999, 0, 0);
         Check.term(x, "dry 0 by 10;let bear 0;", 0);
         x.go(7);
@@ -237,7 +229,7 @@ public final class MoneyEdgesTest {
     }
 
     private static void pricesUnpaid() {
-        WharfPapers x = onDay(0);
+        WharfPapers x = Check.onDay(0);
         for (int l = 0; l < 12; l++) {
             x.lot(0, 1, 1, 0, 0);
         }
@@ -258,7 +250,7 @@ public final class MoneyEdgesTest {
 
     /** Rent 20; 100 and 30 are LENT; 5 and 6 are unpaid. */
     private static WharfPapers indebted() {
-        WharfPapers x = onDay(0);
+        WharfPapers x = Check.onDay(0);
         x.lot(0, 10, 1, 0, 0);
         x.lot(0, 10, 1, 0, 0);
         x.line(0, 0, 0, 1, 0, 5);
@@ -338,7 +330,7 @@ public final class MoneyEdgesTest {
     }
 
     private static void moneyOfTheMost() {
-        WharfPapers x = onDay(0);
+        WharfPapers x = Check.onDay(0);
         x.lot(0, 200, 1, 0, 0);
         for (int i = 0; i < 11; i++) {
             x.line(0, 0, 0, 1, 0, 1);
@@ -369,7 +361,7 @@ public final class MoneyEdgesTest {
     }
 
     private static void moneyOnADay() {
-        WharfPapers x = onDay(10);
+        WharfPapers x = Check.onDay(10);
         x.lot(0, 10, 1, 0, 0);
         x.go(20);
         x.line(0, 5, 0, 1, 0, 5);

@@ -90,14 +90,6 @@ public final class RefusalsTest {
         return x;
     }
 
-    private static WharfPapers onDay(int day) {
-        WharfPapers x = new WharfPapers();
-        for (int left = day; left > 0; left -= Math.min(left, 999)) {
-            x.go(Math.min(left, 999));
-        }
-        return x;
-    }
-
     private static WharfPapers fullOfLots() {
         WharfPapers x = world();
         for (int l = 3; l < 12; l++) {
@@ -310,14 +302,14 @@ public final class RefusalsTest {
     private static void lotsAndFloors() {
         Call go = (x, a) -> x.go(a[0]);
         hold("go", RefusalsTest::world, TAKEN, go, bounds(0, 999));
-        hold("go by 500 from 1500", () -> onDay(1500), TAKEN, go, is(500));
+        hold("go by 500 from 1500", () -> Check.onDay(1500), TAKEN, go, is(500));
         for (int n : new int[] {501, 999}) {
-            Check.due("go(" + n + ") from 1500", onDay(1500).go(n), NOT);
+            Check.due("go(" + n + ") from 1500", Check.onDay(1500).go(n), NOT);
         }
-        Check.due("go(1) from 2000", onDay(2000).go(1), NOT);
-        Check.due("go(1000) from 2000", onDay(2000).go(1000), OUTSIDE);
-        Check.due("go(-1) from 2000", onDay(2000).go(-1), OUTSIDE);
-        Check.due("go(0) from 2000", onDay(2000).go(0), 2000);
+        Check.due("go(1) from 2000", Check.onDay(2000).go(1), NOT);
+        Check.due("go(1000) from 2000", Check.onDay(2000).go(1000), OUTSIDE);
+        Check.due("go(-1) from 2000", Check.onDay(2000).go(-1), OUTSIDE);
+        Check.due("go(0) from 2000", Check.onDay(2000).go(0), 2000);
         Call lot = (x, a) -> x.lot(a[0], a[1], a[2], a[3], a[4]);
         hold("lot", RefusalsTest::world, TAKEN, lot, bounds(0, 3), bounds(1, 200), bounds(1, 999), house(), known(0, 5));
         hold("lot in full", RefusalsTest::fullOfLots, FULL, lot, bounds(0, 3), bounds(1, 200), bounds(1, 999), house(), known(0, 5));
