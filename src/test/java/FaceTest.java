@@ -2,6 +2,7 @@ import java.lang.reflect.Constructor;
 import java.lang.reflect.Field;
 import java.lang.reflect.Method;
 import java.lang.reflect.Modifier;
+import java.util.List;
 import java.util.Set;
 import java.util.TreeSet;
 
@@ -92,6 +93,7 @@ public final class FaceTest {
         Check.holds(inside + " has some twenty fields at the most: " + fields, fields <= 20);
         for (Method method : inside.getDeclaredMethods()) {
             Check.holds("seven parameters: " + method, method.getParameterCount() <= 7);
+            Check.holds(method + " bears no name of the face", !List.of(FACE).stream().anyMatch(f -> f.startsWith(method.getName() + "(")));
         }
     }
 }

@@ -1,4 +1,5 @@
 import java.util.ArrayList;
+import java.util.Arrays;
 import java.util.Comparator;
 import java.util.List;
 import java.util.TreeMap;
@@ -348,17 +349,27 @@ final class Model {
         return what == 0 ? up : low;
     }
 
-    /** null: too many WARRANTS to try all. */
-    Integer doubt(int l, int day, int known, int i) {
+    int doubt(int l, int day, int known, int i) {
         if (noLot(l)) return UNKNOWN;
         if (!in(day, 0, 2000) || !in(known, 0, now)) return OUTSIDE;
+        List<Integer> best = inDoubt(l, day, known);
+        return i == NONE ? best.size() : in(i, 0, best.size() - 1) ? best.get(i) : NONE;
+    }
+
+    List<Integer> inDoubt(int l, int day, int known) {
         Told s = story(day, known);
         List<Integer> of = new ArrayList<>();
         for (int w : s.papers.keySet()) {
             if (s.papers.get(w).lot == l) of.add(w);
         }
-        if (of.size() > 12) return null;
         int over = onPapers(s, l) - there(s, l);
+        if (of.size() <= 12) return bestOfAll(s, of, over);
+        List<Integer> best = null;
+        for (int many = 0; best == null; many++) best = firstOf(s, of, many, over);
+        return best;
+    }
+
+    List<Integer> bestOfAll(Told s, List<Integer> of, int over) {
         List<Integer> best = null;
         for (int set = 0; set < 1 << of.size(); set++) {
             List<Integer> tried = new ArrayList<>();
@@ -371,7 +382,23 @@ final class Model {
             }
             if (casks >= over && (best == null || isBefore(tried, best))) best = tried;
         }
-        return i == NONE ? best.size() : in(i, 0, best.size() - 1) ? best.get(i) : NONE;
+        return best;
+    }
+
+    /** The first row of so many WARRANTS with the casks that are over; null: there is none. */
+    List<Integer> firstOf(Told s, List<Integer> of, int many, int over) {
+        if (many == 0) return over <= 0 ? List.of() : null;
+        for (int k = 0; k + many <= of.size(); k++) {
+            List<Integer> behind = of.subList(k + 1, of.size());
+            int mine = s.papers.get(of.get(k)).casks;
+            int most = behind.stream().map(w -> -s.papers.get(w).casks).sorted().limit(many - 1).mapToInt(c -> -c).sum();
+            if (mine + most >= over) {
+                List<Integer> row = new ArrayList<>(List.of(of.get(k)));
+                row.addAll(firstOf(s, behind, many - 1, over - mine));
+                return row;
+            }
+        }
+        return null;
     }
 
     static boolean isBefore(List<Integer> a, List<Integer> b) {
@@ -572,13 +599,22 @@ final class Model {
         }
         if (i != NONE && noLot(i)) return UNKNOWN;
         if (Integer.bitCount(set) > 8) return OUTSIDE;
+        int[] best = planOf(set);
+        if (best == null) return NOT;
+        return i == NONE ? best[lots.size()] : (set >> i & 1) == 1 ? best[i] : NONE;
+    }
+
+    /** The FLOORS of all LOTS, and behind them the casks moved; null: there is no plan. */
+    int[] planOf(int set) {
         Told s = story(now, now);
         int[] at = floors.stream().mapToInt(f -> f).toArray();
         int[][] best = new int[1][];
         int[] cost = {Integer.MAX_VALUE};
         tryAll(s, set, 0, at, 0, best, cost);
-        if (best[0] == null) return NOT;
-        return i == NONE ? cost[0] : (set >> i & 1) == 1 ? best[0][i] : NONE;
+        if (best[0] == null) return null;
+        int[] all = Arrays.copyOf(best[0], lots.size() + 1);
+        all[lots.size()] = cost[0];
+        return all;
     }
 
     void tryAll(Told s, int set, int l, int[] at, int moved, int[][] best, int[] cost) {

@@ -1,6 +1,8 @@
+import java.util.List;
+
 /** All promises: many runs of calls, each answered by the program and by the model. */
 public final class ModelTest {
-    private static final int RUNS = 4000, CALLS = 512, RINGS = 300;
+    private static final int RUNS = 4000, CALLS = 512, RINGS = 300, CROWDS = 60, PILES = 200;
     /** A text is fed byte by byte at the worst, and none is longer than this. */
     private static final int MOST_AT_ONCE = 200;
 
@@ -22,6 +24,12 @@ public final class ModelTest {
         }
         for (int r = 0; r < RINGS && Check.wrongs() == 0; r++) {
             new ModelTest().oneRing(r);
+        }
+        for (int r = 0; r < CROWDS && Check.wrongs() == 0; r++) {
+            new ModelTest().oneCrowd(r);
+        }
+        for (int r = 0; r < PILES && Check.wrongs() == 0; r++) {
+            new ModelTest().onePile(r);
         }
         Check.end();
     }
@@ -46,6 +54,66 @@ public final class ModelTest {
         askFails();
         if (Check.wrongs() > 0) {
             System.out.println("ring " + r + ":\n" + run);
+        }
+    }
+
+    /** Eight LOTS and some that stay, on FLOORS with hardly ROOM for them. */
+    private void oneCrowd(int r) {
+        seed = r * 15485863L + 11;
+        x = new WharfPapers();
+        m = new Model();
+        int lots = 8 + pick(5);
+        int most = 2 + pick(30);
+        for (int l = 0; l < lots; l++) {
+            tellLot(pick(4), 1 + pick(most), 1, 0, pick(1 + pick(6)));
+        }
+        for (int f = 0; f < 6; f++) {
+            tellRoom(f, lots * most / 24 + pick(1 + most));
+        }
+        for (int k = pick(3); k > 0; k--) {
+            tellPart(pick(4), pick(4), true);
+        }
+        tellLine(8, 0, pick(lots), 0, 0, 1 + pick(most));
+        int set = (1 << lots) - 1;
+        while (Integer.bitCount(set) > 8) {
+            set &= ~(1 << pick(lots));
+        }
+        int[] plan = m.planOf(set);
+        for (int i = -1; i < lots; i++) {
+            int due = plan == null ? Model.NOT : i < 0 ? plan[lots] : (set >> i & 1) == 1 ? plan[i] : Model.NONE;
+            same("plan(" + set + ", " + i + ")", x.plan(set, i), due);
+        }
+        if (Check.wrongs() > 0) {
+            System.out.println("crowd " + r + ":\n" + run);
+        }
+    }
+
+    /** Many WARRANTS on few casks: DOUBT and SHARE of them all. */
+    private void onePile(int r) {
+        seed = r * 32452843L + 3;
+        x = new WharfPapers();
+        m = new Model();
+        tellLot(0, 1 + pick(200), 1, 0, 0);
+        int papers = 13 + pick(100);
+        int most = 1 + pick(pick(2) == 0 ? 6 : 200);
+        for (int k = 0; k < papers; k++) {
+            tellLine(0, 0, 0, pick(8), 0, 1 + pick(most));
+        }
+        for (int k = pick(8); k > 0; k--) {
+            int kind = pick(2) == 0 ? 2 : pick(2) == 0 ? 7 : 8;
+            tellLine(kind, 0, kind == 8 ? 0 : pick(papers), 0, 0, 1 + pick(most));
+        }
+        List<Integer> due = m.inDoubt(0, 0, 0);
+        same("doubt(0, 0, 0, -1)", x.doubt(0, 0, 0, -1), due.size());
+        for (int i = 0; i <= due.size(); i++) {
+            same("doubt(0, 0, 0, " + i + ")", x.doubt(0, 0, 0, i), i < due.size() ? due.get(i) : Model.NONE);
+        }
+        for (int k = 0; k < 20; k++) {
+            int w = pick(papers), what = pick(2);
+            same("share(" + w + ", 0, 0, " + what + ")", x.share(w, 0, 0, what), m.share(w, 0, 0, what));
+        }
+        if (Check.wrongs() > 0) {
+            System.out.println("pile " + r + ":\n" + run);
         }
     }
 
@@ -152,8 +220,7 @@ public final class ModelTest {
     private void tellLines() {
         if (m.lots.size() < lotsWanted || pick(60) == 0) {
             int sort = num(0, 3), n = pick(3) == 0 ? num(1, 200) : num(1, 12), weight = num(1, 999), house = num(0, 7), floor = num(0, 5);
-            same("lot(" + sort + ", " + n + ", " + weight + ", " + house + ", " + floor + ")",
-                x.lot(sort, n, weight, house, floor), m.lot(sort, n, weight, house, floor));
+            tellLot(sort, n, weight, house, floor);
         }
         if (pick(5) == 0) {
             int n = num(0, step);
@@ -169,8 +236,25 @@ public final class ModelTest {
             q = held == null ? q : held.holds;
         }
         int n = kind == 1 ? num(0, 1) : kind == 3 ? num(1, 9999) : pick(8) == 0 ? num(1, 200) : num(1, 8);
+        tellLine(kind, day, target, p, q, n);
+    }
+
+    private void tellLot(int sort, int n, int weight, int house, int floor) {
+        same("lot(" + sort + ", " + n + ", " + weight + ", " + house + ", " + floor + ")",
+            x.lot(sort, n, weight, house, floor), m.lot(sort, n, weight, house, floor));
+    }
+
+    private void tellLine(int kind, int day, int target, int p, int q, int n) {
         same("line(" + kind + ", " + day + ", " + target + ", " + p + ", " + q + ", " + n + ")",
             x.line(kind, day, target, p, q, n), m.line(kind, day, target, p, q, n));
+    }
+
+    private void tellRoom(int floor, int v) {
+        same("room(" + floor + ", " + v + ")", x.room(floor, v), m.room(floor, v));
+    }
+
+    private void tellPart(int s, int t, boolean is) {
+        same("part(" + s + ", " + t + ", " + is + ")", x.part(s, t, is), m.part(s, t, is));
     }
 
     private void askPapers() {
@@ -190,10 +274,7 @@ public final class ModelTest {
                 break;
             case 3:
                 int i = num(-1, 3);
-                Integer due = m.doubt(l, day, known, i);
-                if (due != null) {
-                    same("doubt(" + l + ", " + day + ", " + known + ", " + i + ")", x.doubt(l, day, known, i), due);
-                }
+                same("doubt(" + l + ", " + day + ", " + known + ", " + i + ")", x.doubt(l, day, known, i), m.doubt(l, day, known, i));
                 break;
             case 4:
                 int house = house(), sort = num(0, 3), what4 = num(0, 1);
@@ -302,7 +383,7 @@ public final class ModelTest {
                 break;
             case 2:
                 int n = num(1, 200);
-                int ought = m.noLot(l) ? 0 : n % 1000 * m.weight(l, m.now);
+                int ought = m.noLot(l) ? 0 : Math.max(0, n % 1000) * m.weight(l, m.now);
                 int weight = pick(3) == 0 ? num(0, 199999) : Math.max(0, ought - pick(ought / 50 + 2) + 1);
                 same("weigh(" + l + ", " + n + ", " + weight + ")", x.weigh(l, n, weight), m.weigh(l, n, weight));
                 break;
@@ -353,7 +434,7 @@ public final class ModelTest {
         switch (pick(5)) {
             case 0:
                 int floor = num(0, 5), v = pick(2) == 0 ? num(0, 999) : num(0, 30);
-                same("room(" + floor + ", " + v + ")", x.room(floor, v), m.room(floor, v));
+                tellRoom(floor, v);
                 break;
             case 1:
                 int l = lot(), to = num(0, 5);
@@ -362,7 +443,7 @@ public final class ModelTest {
             case 2:
                 int s = num(0, 3), t = num(0, 3);
                 boolean is = pick(3) != 0;
-                same("part(" + s + ", " + t + ", " + is + ")", x.part(s, t, is), m.part(s, t, is));
+                tellPart(s, t, is);
                 break;
             default:
                 int set = pick(wrongChance) == 0 ? num(0, 8191) : pick(1 << m.lots.size());
