@@ -185,6 +185,15 @@ public final class SalesEdgesTest {
             isHouse("COIN " + coin, x, 0, 0, coin, 0, 0);
             areRounds("COIN " + coin, x, isShort ? 1 : 0, isShort ? 1 : 0);
         }
+        WharfPapers one = new WharfPapers();
+        one.due(3, 4, 1);
+        isHouse("1 is all that it owes", one, 3, 1, 0, 0, 1);
+        isHouse("1 is all that it is owed", one, 4, 0, 0, 0, 0);
+        areRounds("1 is all that is owed", one, 1, 1);
+        one.coin(3, 1);
+        isHouse("it has that 1", one, 3, 0, 1, 1, 1);
+        isHouse("it gets that 1", one, 4, 0, 1, 0, 0);
+        areRounds("it has that 1", one, 0, 0);
         WharfPapers y = new WharfPapers();
         y.due(0, 1, 10);
         y.due(2, 0, 4);

@@ -32,10 +32,14 @@ public final class StoryEdgesTest {
         doubtOfTheFewest();
         doubtOfTheFirst();
         doubtOfOneLot();
+        doubtOnADayAsKnown();
+        papersOfTheLastLot();
         stockOfHouses();
         news();
+        newsOnADay();
         askedOf120Papers();
         whatWasAskedBefore();
+        papersThatAreVoidNow();
         Check.end();
     }
 
@@ -565,6 +569,52 @@ public final class StoryEdgesTest {
         isDoubtOf("2 of 7", y, 0, part);
     }
 
+    /** 8 casks from DAY 2 on and 5 from 4 on (told on 9), 8 of 10 BURNT on 6 (told on 10), the first VOID (told on 11). */
+    private static void doubtOnADayAsKnown() {
+        WharfPapers x = Check.withLots(10);
+        x.go(9);
+        x.line(ISSUE, 2, 0, 1, 0, 8);
+        x.line(ISSUE, 4, 0, 1, 0, 5);
+        x.go(1);
+        x.line(BURNT, 6, 0, 0, 0, 8);
+        x.go(1);
+        x.line(VOID, 11, 0, 0, 0, 0);
+        for (int day : new int[] {0, 1, 2, 3, 4, 5, 6, 7, 11, 12, 2000}) {
+            String on = "17 on " + day + " as known on ";
+            Check.due(on + 8, x.doubt(0, day, 8, NONE), 0);
+            Check.due(on + 9, x.doubt(0, day, 9, NONE), day < 4 ? 0 : 1);
+            Check.due(on + 9, x.doubt(0, day, 9, 0), day < 4 ? NONE : 0);
+            Check.due(on + 10, x.doubt(0, day, 10, NONE), day < 4 ? 0 : day < 6 ? 1 : 2);
+            Check.due(on + 10, x.doubt(0, day, 10, 1), day < 6 ? NONE : 1);
+            Check.due(on + 11, x.doubt(0, day, 11, NONE), day < 6 ? 0 : 1);
+            Check.due(on + 11, x.doubt(0, day, 11, 0), day < 6 ? NONE : 1);
+        }
+    }
+
+    /** What is done by a WARRANT is done to its own LOT. */
+    private static void papersOfTheLastLot() {
+        WharfPapers x = Check.withLots(10, 11, 12, 13, 14, 15, 16, 17, 18, 19, 20, 21);
+        done("an ISSUE", x, ISSUE, 11, 1, 0, 9);
+        int part = done("a PART", x, PART, 0, 0, 0, 4);
+        done("OUT", x, OUT, part, 0, 0, 3);
+        isPaper("a PART", x, part, 1, 1, 1, NONE, 0, NONE, 11);
+        for (int l = 0; l < 12; l++) {
+            Check.due("15 THERE", x.goods(l, 0, 0, 0), l == 11 ? 18 : 10 + l);
+            Check.due("15 OUT", x.goods(l, 0, 0, 1), l == 11 ? 3 : 0);
+            Check.due("15 casks on WARRANTS", x.goods(l, 0, 0, 3), l == 11 ? 6 : 0);
+            Check.due("15 WARRANTS with casks", x.goods(l, 0, 0, 5), l == 11 ? 2 : 0);
+        }
+        done("an ISSUE", x, ISSUE, 11, 1, 0, 15);
+        isDoubtOf("3 of 5, 1, 15", x, 11, 0);
+        isDoubtOf("another LOT", x, 10);
+        WharfPapers y = Check.withLots(10);
+        done("BURNT", y, BURNT, 0, 0, 0, 6);
+        done("an ISSUE", y, ISSUE, 0, 1, 0, 5);
+        done("LENT", y, LENT, 1, 4, 0, 50);
+        isDoubtOf("1 of 5, and LINE 0 is no WARRANT", y, 0, 1);
+        Check.due("25 LENT on it", y.money(0, 99999, 0, 1), 50);
+    }
+
     private static void stockOfHouses() {
         WharfPapers x = new WharfPapers();
         for (int s = 0; s < 4; s++) {
@@ -630,6 +680,23 @@ public final class StoryEdgesTest {
         Check.due("19 on the last DAY", y.news(2000, 0, 1), 0);
     }
 
+    /** What came behind the DAY is not looked at, AS KNOWN on either. */
+    private static void newsOnADay() {
+        WharfPapers x = withPaper();
+        x.go(3);
+        x.line(PASS, 3, 0, 2, 1, 1);
+        x.go(2);
+        x.line(STOLEN, 2, 0, 3, 0, 0);
+        for (int day = 0; day <= 6; day++) {
+            // AS KNOWN on 5 the thief has it from 2 on, so that the PASS is VAIN
+            Check.due("19 on " + day + ", 4 and 5", x.news(day, 4, 5), day < 2 ? 0 : 1);
+            Check.due("19 on " + day + ", 5 and 4", x.news(day, 5, 4), day < 2 ? 0 : 1);
+            Check.due("19 on " + day + ", 2 and 4", x.news(day, 2, 4), day < 3 ? 0 : 1);
+            Check.due("19 on " + day + ", 4 and 2", x.news(day, 4, 2), day < 3 ? 0 : 1);
+            Check.due("19 on " + day + ", 2 and 5", x.news(day, 2, 5), day < 2 ? 0 : 1);
+        }
+    }
+
     private static void askedOf120Papers() {
         WharfPapers x = new WharfPapers();
         x.lot(3, 200, 10, 0, 0);
@@ -671,5 +738,28 @@ public final class StoryEdgesTest {
         x.line(VOID, 1, 1, 0, 0, 0);
         x.line(VOID, 1, 2, 0, 0, 0);
         isPaper("as it was", x, 0, 6, 1, 1, NONE, 0, NONE);
+    }
+
+    /** What they had when they were asked about before is not counted. */
+    private static void papersThatAreVoidNow() {
+        WharfPapers x = withPaper();
+        done("LENT", x, LENT, 0, 4, 0, 50);
+        Check.due("9 there", x.count(5), 1);
+        Check.due("15 there", x.goods(0, 0, 0, 5), 1);
+        Check.due("18 there", x.stock(1, 0, 0), 6);
+        Check.due("25 there", x.money(0, 99999, 0, 1), 50);
+        x.line(VOID, 0, 0, 0, 0, 0);
+        Check.due("9 VOID", x.count(5), 0);
+        Check.due("15 VOID", x.goods(0, 0, 0, 5), 0);
+        Check.due("18 VOID", x.stock(1, 0, 0), 0);
+        Check.due("18 VOID", x.stock(1, 0, 1), 0);
+        Check.due("25 VOID", x.money(0, 99999, 0, 1), 0);
+        WharfPapers y = Check.withLots(10);
+        for (int w = 0; w < 3; w++) {
+            done("an ISSUE", y, ISSUE, 0, 1, 0, 8);
+        }
+        isDoubtOf("14 of 8, 8, 8", y, 0, 0, 1);
+        y.line(VOID, 0, 0, 0, 0, 0);
+        isDoubtOf("6 of 8, 8", y, 0, 1);
     }
 }
